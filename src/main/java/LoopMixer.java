@@ -460,7 +460,7 @@ public final class LoopMixer {
         private static final long FLOAT_ENDLESS = 0x7F800000L;
         // 2 to the power of 1, 2, 4 .. 512: together they reach every exponent of a double.
         private static final int POWERS = 10;
-        // The greatest double is the smallest one, doubled 2097 times, and a bit more.
+        // The smallest double, doubled 2097 times, is more than half of the greatest one.
         private static final int MOST_DOUBLINGS = 2100;
 
         private final double[] up = new double[POWERS];

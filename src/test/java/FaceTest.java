@@ -92,8 +92,10 @@ public final class FaceTest {
         for (String word : NOT_LEFT) {
             CHECKS.holds("no '" + word + "' in the code", !code.contains(word));
         }
+        boolean plain = true;
         for (byte sign : bytes) {
-            CHECKS.holds("signs are 1 to 127", sign > 0);
+            plain &= sign > 0;
         }
+        CHECKS.holds("signs are 1 to 127", plain);
     }
 }
