@@ -1,9 +1,17 @@
-import java.util.function.LongSupplier;
-
 /** Counts answers that are not the ones that are due, and ends the test with exit code 1 if there were any. */
 final class Checks {
+    private String about = "";
     private int right = 0;
     private int wrong = 0;
+
+    /** What the next checks are about: it stands before each of them that goes wrong. */
+    void about(String words) {
+        about = words.isEmpty() ? "" : words + " -- ";
+    }
+
+    int made() {
+        return right + wrong;
+    }
 
     void due(String call, long got, long want) {
         if (got == want) {
@@ -11,24 +19,16 @@ final class Checks {
             return;
         }
         wrong++;
-        System.out.println(call + " answered " + got + ", due is " + want);
-    }
-
-    /** A call that must TELL: it answers 1, and told() is want then. */
-    void tells(LoopMixer mixer, String call, long answer, long want) {
-        due(call, answer, 1);
-        due(call + ", told()", mixer.told(), want);
-    }
-
-    /** A call that is refused: it answers want and leaves told() as it was. */
-    void refuses(LoopMixer mixer, String call, LongSupplier answer, long want) {
-        long before = mixer.told();
-        due(call, answer.getAsLong(), want);
-        due(call + ", told()", mixer.told(), before);
+        System.out.println(about + call + " answered " + got + ", due is " + want);
     }
 
     void holds(String what, boolean holds) {
-        due(what, holds ? 1 : 0, 1);
+        if (holds) {
+            right++;
+            return;
+        }
+        wrong++;
+        System.out.println(about + what + ": it is not so");
     }
 
     void end() {

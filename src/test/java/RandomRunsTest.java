@@ -3,8 +3,9 @@ import java.util.Random;
 /** All promises: long runs of calls, the same ones every time, whose answers PlainMixer gives too. */
 public final class RandomRunsTest {
     private static final Checks CHECKS = new Checks();
-    private static final int RUNS = 3000;
-    private static final int CALLS = 512;
+    private static final int RUNS = 4000;
+    // Each is up to three calls, of the 512 that an object is promised for.
+    private static final int ROUNDS = 170;
     private static final double[] ORDINARY = {
         0.0, -0.0, 1.0, -1.0, 0.5, -0.5, 0.1, -0.3, 2.0, 3.0, -4.0, 1.5, 7.9, 16.0, -16.0, 64.0, -64.0, 65.0,
         1000000.0, -1000000.0, 1000000.1, 123.456, -9999.5, 1e-7, 4.9e-324, -1e-320, 1.4e-45, 1e-40, 1e38, -3e38, 1e300
@@ -54,8 +55,8 @@ public final class RandomRunsTest {
     private void compare(int run) {
         LoopMixer x = new LoopMixer();
         PlainMixer y = new PlainMixer();
-        for (int call = 0; call < CALLS; call += 2) {
-            String where = "run " + run + ", call " + call + ": ";
+        for (int round = 0; round < ROUNDS; round++) {
+            String where = "run " + run + ", round " + round + ": ";
             callBoth(where, x, y);
             CHECKS.due(where + "told()", x.told(), y.told());
         }
