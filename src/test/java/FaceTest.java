@@ -1,15 +1,11 @@
-import java.io.IOException;
 import java.lang.reflect.Constructor;
 import java.lang.reflect.Field;
 import java.lang.reflect.Method;
 import java.lang.reflect.Modifier;
-import java.nio.charset.StandardCharsets;
-import java.nio.file.Files;
-import java.nio.file.Paths;
 import java.util.Set;
 import java.util.TreeSet;
 
-/** The document's public face, and those rules of LANGUAGE.md that can be seen from outside the code. */
+/** The document's public face, and nothing beside it (rule 1 of LANGUAGE.md). */
 public final class FaceTest {
     private static final Checks CHECKS = new Checks();
     private static final String[] FACE = {
@@ -19,15 +15,10 @@ public final class FaceTest {
         "int take(int,int,int,int)", "int head(int,int,int,int,long)", "int play(int,int)", "int failed()",
         "int mix(int,int)", "int hush()", "int at(int,int)", "int clock(long,int)", "long told()"
     };
-    private static final String[] NOT_LEFT = {
-        "import ", "Float.", "Double.", "StrictMath", "Exact(", "try {", "catch", "finally", "throw ", "->", "::",
-        "synchronized", "assert ", "System.", "Random", "Thread", "hashCode", "toString", "static {", "package "
-    };
 
-    public static void main(String[] args) throws IOException {
+    public static void main(String[] args) {
         theFaceIsTheDocuments();
-        staticFieldsAreConstants();
-        theSourceKeepsToTheLanguage();
+        theRestIsHidden();
         CHECKS.end();
     }
 
@@ -53,7 +44,17 @@ public final class FaceTest {
         Constructor<?>[] makers = LoopMixer.class.getDeclaredConstructors();
         CHECKS.due("constructors", makers.length, 1);
         CHECKS.holds("it is public", Modifier.isPublic(makers[0].getModifiers()) && makers[0].getParameterCount() == 0);
+        badIsAConstant();
+    }
+
+    private static void badIsAConstant() {
         CHECKS.due("BAD", LoopMixer.BAD, -1);
+        int modifiers = 0;
+        for (Field field : LoopMixer.class.getFields()) {
+            CHECKS.holds(field + " is BAD, an int", field.getName().equals("BAD") && field.getType() == int.class);
+            modifiers = field.getModifiers();
+        }
+        CHECKS.holds("BAD is static and final", Modifier.isStatic(modifiers) && Modifier.isFinal(modifiers));
     }
 
     private static String signature(Method method) {
@@ -64,38 +65,15 @@ public final class FaceTest {
         return text.append(")").toString();
     }
 
-    private static void staticFieldsAreConstants() {
-        constantsOf(LoopMixer.class);
+    private static void theRestIsHidden() {
+        for (Field field : LoopMixer.class.getDeclaredFields()) {
+            boolean hidden = Modifier.isPrivate(field.getModifiers());
+            CHECKS.holds(field + " is no part of the face", hidden || field.getName().equals("BAD"));
+        }
         for (Class<?> inside : LoopMixer.class.getDeclaredClasses()) {
-            CHECKS.holds(inside + " is static", Modifier.isStatic(inside.getModifiers()));
-            CHECKS.holds(inside + " is not public", !Modifier.isPublic(inside.getModifiers()));
-            constantsOf(inside);
+            int modifiers = inside.getModifiers();
+            CHECKS.holds(inside + " is static", Modifier.isStatic(modifiers));
+            CHECKS.holds(inside + " is hidden", !Modifier.isPublic(modifiers) && !Modifier.isProtected(modifiers));
         }
-    }
-
-    private static void constantsOf(Class<?> type) {
-        Set<Class<?>> left = Set.of(int.class, long.class, boolean.class, char.class, String.class);
-        for (Field field : type.getDeclaredFields()) {
-            if (Modifier.isStatic(field.getModifiers())) {
-                CHECKS.holds(field + " is final", Modifier.isFinal(field.getModifiers()));
-                CHECKS.holds(field + " is a constant", left.contains(field.getType()));
-            }
-            boolean seen = type == LoopMixer.class && !Modifier.isPrivate(field.getModifiers());
-            CHECKS.holds(field + " is no part of the face", !seen || field.getName().equals("BAD"));
-        }
-    }
-
-    private static void theSourceKeepsToTheLanguage() throws IOException {
-        byte[] bytes = Files.readAllBytes(Paths.get("src/main/java/LoopMixer.java"));
-        String source = new String(bytes, StandardCharsets.ISO_8859_1);
-        String code = source.replaceAll("(?s)/\\*.*?\\*/", "").replaceAll("//[^\n]*", "");
-        for (String word : NOT_LEFT) {
-            CHECKS.holds("no '" + word + "' in the code", !code.contains(word));
-        }
-        boolean plain = true;
-        for (byte sign : bytes) {
-            plain &= sign > 0;
-        }
-        CHECKS.holds("signs are 1 to 127", plain);
     }
 }

@@ -4,8 +4,8 @@ import java.util.Random;
 public final class RandomRunsTest {
     private static final Checks CHECKS = new Checks();
     private static final int RUNS = 4000;
-    // Each is up to three calls, of the 512 that an object is promised for.
-    private static final int ROUNDS = 170;
+    // Each is up to three calls; with those before and after them no more than the 512 of an object.
+    private static final int ROUNDS = 135;
     private static final double[] ORDINARY = {
         0.0, -0.0, 1.0, -1.0, 0.5, -0.5, 0.1, -0.3, 2.0, 3.0, -4.0, 1.5, 7.9, 16.0, -16.0, 64.0, -64.0, 65.0,
         1000000.0, -1000000.0, 1000000.1, 123.456, -9999.5, 1e-7, 4.9e-324, -1e-320, 1.4e-45, 1e-40, 1e38, -3e38, 1e300
@@ -55,10 +55,64 @@ public final class RandomRunsTest {
     private void compare(int run) {
         LoopMixer x = new LoopMixer();
         PlainMixer y = new PlainMixer();
+        // Calls by chance alone seldom fill a rack, so half of the runs begin with all that a head needs.
+        if (run % 2 == 0) {
+            prepareBoth("run " + run + ", before: ", x, y);
+        }
         for (int round = 0; round < ROUNDS; round++) {
             String where = "run " + run + ", round " + round + ": ";
             callBoth(where, x, y);
             CHECKS.due(where + "told()", x.told(), y.told());
+        }
+        compareWhatIsLeft("run " + run + ", after: ", x, y);
+    }
+
+    private void compareWhatIsLeft(String where, LoopMixer x, PlainMixer y) {
+        for (int i = 0; i < 8; i++) {
+            CHECKS.due(where + "mix", x.mix(i, 0), y.mix(i, 0));
+            CHECKS.due(where + "item " + i + " of the mix", x.told(), y.told());
+        }
+        for (int h = 0; h < 4; h++) {
+            for (int what = 0; what < 2; what++) {
+                CHECKS.due(where + "at", x.at(h, what), y.at(h, what));
+                CHECKS.due(where + "head " + h + ", " + what, x.told(), y.told());
+            }
+        }
+        CHECKS.due(where + "clock", x.clock(0L, 0), y.clock(0L, 0));
+        CHECKS.due(where + "the clock", x.told(), y.told());
+    }
+
+    private void prepareBoth(String where, LoopMixer x, PlainMixer y) {
+        for (int k = 0; k < 3; k++) {
+            prepareRow(where, x, y, false, k);
+            prepareRow(where, x, y, true, k);
+        }
+        for (int k = 0; k < 6; k++) {
+            long amount = Told.d(random.nextGaussian() * (random.nextInt(4) == 0 ? 1000.0 : 2.0));
+            CHECKS.due(where + "effect", x.effect(k, k % 3, amount), y.effect(k, k % 3, amount));
+        }
+        for (int r = 0; r < 3; r++) {
+            CHECKS.due(where + "rack", x.rack(r, r), y.rack(r, r));
+            for (int i = 0; i < 3; i++) {
+                int k = 3 * random.nextInt(2) + (r == Told.GAIN ? random.nextInt(2) : r);
+                CHECKS.due(where + "hang", x.hang(r, i, k), y.hang(r, i, k));
+            }
+        }
+        for (int h = 0; h < 4; h++) {
+            int track = random.nextInt(3);
+            int curve = random.nextInt(4) - 1;
+            int rack = random.nextInt(4) - 1;
+            long rate = Told.d(random.nextGaussian() * 2.0);
+            CHECKS.due(where + "head", x.head(h, track, curve, rack, rate), y.head(h, track, curve, rack, rate));
+        }
+    }
+
+    private void prepareRow(String where, LoopMixer x, PlainMixer y, boolean curve, int k) {
+        int n = 1 + random.nextInt(6);
+        CHECKS.due(where + "row", x.row(curve, k, n), y.row(curve, k, n));
+        for (int i = 0; i < n; i++) {
+            long bits = someBits(curve);
+            CHECKS.due(where + "set", x.set(curve, k, i, bits), y.set(curve, k, i, bits));
         }
     }
 
@@ -145,6 +199,7 @@ public final class RandomRunsTest {
         int how = some(0, 6);
         int i = some(0, 8);
         int tellMix = some(0, 4);
+        int what = some(0, 2);
         long bits = someBits(true);
         long time = random.nextInt(4) == 0 ? random.nextLong() : random.nextInt();
         switch (which) {
@@ -166,7 +221,7 @@ public final class RandomRunsTest {
                 }
                 break;
             case 22:
-                CHECKS.due(where + "at", x.at(h, track % 2), y.at(h, track % 2));
+                CHECKS.due(where + "at", x.at(h, what), y.at(h, what));
                 break;
             default:
                 CHECKS.due(where + "clock", x.clock(time, how), y.clock(time, how));
